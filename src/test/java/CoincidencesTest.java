@@ -126,6 +126,11 @@ public final class CoincidencesTest {
             int one = s;
             Check.asks("24 luck of " + s, town, () -> town.luckOf(one), luck[s]);
         }
+        TicketCoincidences walking = new TicketCoincidences();
+        walking.addStranger(12, 0, 5, 1);
+        walking.addStranger(21, 0, 5, 0);
+        walking.addStranger(13, 0, 0, 0);
+        Check.asks("22 now, not behind the next walk", walking, walking::coincidences, 9);
     }
 
     private static void noSuchCornerOrStranger() {

@@ -148,6 +148,12 @@ public final class ForecastTest {
         Check.asks("31 whatever it costs", most, most::bestSwap, 103);
         most.swapTickets(1, 3);
         Check.asks("31 with nothing left", most, most::bestSwap, -1);
+        // Behind the next walk all would stand apart.
+        TicketCoincidences walking = townOf(new int[] {12, 0, 0, 1}, new int[] {60, 1, 0, 2}, new int[] {21, 2, 4, 0});
+        Check.asks("31 the town of now", walking, walking::bestSwap, 102);
+        // Behind the next walk 12 and 21 would be together: that is no reason not to bring them together now.
+        TicketCoincidences meeting = townOf(new int[] {12, 0, 0, 1}, new int[] {60, 1, 0, 0}, new int[] {21, 2, 1, 0});
+        Check.asks("31 more than now", meeting, meeting::bestSwap, 102);
     }
 
     private static void bestTicket() {

@@ -12,6 +12,7 @@ public final class MachineTest {
         passOneHour();
         passManyHours();
         passFillsTheStore();
+        passWithTwelve();
         passRefuses();
         Check.end();
     }
@@ -71,6 +72,10 @@ public final class MachineTest {
         Check.due("5 luck behind", town.luckOf(0), 9);
         Check.due("5 store", town.store(), 17);
         Check.due("5 spent", town.spent(), 3);
+        // Behind the next walk, the third would stand with the first.
+        TicketCoincidences walking = townOf(new int[] {12, 0, 2, 0}, new int[] {35, 1, 2, 3}, new int[] {60, 1, 1, 1});
+        Check.due("5 no more now", walking.swapUmbrellas(0, 1), 0);
+        Check.due("5 nor then", walking.swapUmbrellas(0, 1), 0);
     }
 
     private static void swapUmbrellasRefuses() {
@@ -106,6 +111,10 @@ public final class MachineTest {
         Check.due("6 fewer", town.swapTickets(0, 2), -7);
         Check.due("6 store then", town.store(), 4);
         Check.due("6 spent then", town.spent(), 16);
+        // The town of now counts, not that behind the next walk: 12 and 21 walk to different corners.
+        TicketCoincidences walking = townOf(new int[] {12, 0, 0, 1}, new int[] {50, 1, 0, 2}, new int[] {21, 2, 4, 0});
+        Check.due("6 more now", walking.swapTickets(1, 2), 7);
+        Check.due("6 fewer now", walking.swapTickets(1, 2), -7);
     }
 
     private static void swapTicketsRefuses() {
@@ -195,6 +204,20 @@ public final class MachineTest {
         Check.due("8 sixty hours", town.pass(60), 0);
         Check.due("8 still 100", town.store(), 100);
         Check.due("8 hour", town.hour(), 74);
+    }
+
+    private static void passWithTwelve() {
+        TicketCoincidences town = new TicketCoincidences();
+        for (int i = 0; i < 12; i++) {
+            town.addStranger(11, 3, 5, 2);
+        }
+        // 66 pairs of 10 points each.
+        Check.due("8 twelve, behind 60 hours", town.pass(60), 39600);
+        for (int i = 0; i < 12; i++) {
+            Check.due("8 corner " + i, town.cornerOf(i), 5);
+        }
+        Check.due("8 coincidences of twelve", town.coincidences(), 660);
+        Check.due("8 store", town.store(), 100);
     }
 
     private static void passRefuses() {
