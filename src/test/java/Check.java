@@ -12,6 +12,15 @@ final class Check {
     private Check() {
     }
 
+    /** A town of strangers, each given by ticket, colour, corner and walk. */
+    static TicketCoincidences townOf(int[]... strangers) {
+        TicketCoincidences town = new TicketCoincidences();
+        for (int[] s : strangers) {
+            town.addStranger(s[0], s[1], s[2], s[3]);
+        }
+        return town;
+    }
+
     static void due(String what, Object got, Object want) {
         if (want.equals(got)) {
             passed++;

@@ -17,20 +17,12 @@ public final class MachineTest {
         Check.end();
     }
 
-    private static TicketCoincidences townOf(int[]... strangers) {
-        TicketCoincidences town = new TicketCoincidences();
-        for (int[] s : strangers) {
-            town.addStranger(s[0], s[1], s[2], s[3]);
-        }
-        return town;
-    }
-
     private static void moveCosts() {
         for (int from = 0; from < 6; from++) {
             int[] costs = {0, 2, 4, 6, 4, 2};
             for (int on = 1; on < 6; on++) {
                 int to = (from + on) % 6;
-                TicketCoincidences town = townOf(new int[] {1, 1, from, 3});
+                TicketCoincidences town = Check.townOf(new int[] {1, 1, from, 3});
                 Check.due("4 from " + from + " to " + to, town.move(0, to), costs[on]);
                 Check.due("4 corner", town.cornerOf(0), to);
                 Check.due("4 walk", town.walkOf(0), 3);
@@ -42,7 +34,7 @@ public final class MachineTest {
     }
 
     private static void moveRefuses() {
-        TicketCoincidences town = townOf(new int[] {1, 1, 0, 0});
+        TicketCoincidences town = Check.townOf(new int[] {1, 1, 0, 0});
         Check.refused("4 stranger -1", town, Check.NO_SUCH, () -> town.move(-1, 1));
         Check.refused("4 stranger 1", town, Check.NO_SUCH, () -> town.move(1, 9));
         Check.refused("4 corner -1", town, Check.NOT_ALLOWED, () -> town.move(0, -1));
@@ -61,7 +53,7 @@ public final class MachineTest {
     }
 
     private static void swapUmbrellas() {
-        TicketCoincidences town = townOf(new int[] {12, 0, 2, 0}, new int[] {21, 1, 2, 0},
+        TicketCoincidences town = Check.townOf(new int[] {12, 0, 2, 0}, new int[] {21, 1, 2, 0},
                 new int[] {40, 1, 2, 0}, new int[] {77, 0, 3, 0});
         Check.due("5 luck before", town.luckOf(0), 7);
         // The umbrellas of one corner stay there, so their points there stay the same.
@@ -73,13 +65,15 @@ public final class MachineTest {
         Check.due("5 store", town.store(), 17);
         Check.due("5 spent", town.spent(), 3);
         // Behind the next walk, the third would stand with the first.
-        TicketCoincidences walking = townOf(new int[] {12, 0, 2, 0}, new int[] {35, 1, 2, 3}, new int[] {60, 1, 1, 1});
+        TicketCoincidences walking = Check.townOf(new int[] {12, 0, 2, 0}, new int[] {35, 1, 2, 3},
+                new int[] {60, 1, 1, 1});
         Check.due("5 no more now", walking.swapUmbrellas(0, 1), 0);
         Check.due("5 nor then", walking.swapUmbrellas(0, 1), 0);
     }
 
     private static void swapUmbrellasRefuses() {
-        TicketCoincidences town = townOf(new int[] {12, 0, 2, 0}, new int[] {21, 1, 2, 0}, new int[] {40, 1, 3, 0});
+        TicketCoincidences town = Check.townOf(new int[] {12, 0, 2, 0}, new int[] {21, 1, 2, 0},
+                new int[] {40, 1, 3, 0});
         Check.refused("5 a -1", town, Check.NO_SUCH, () -> town.swapUmbrellas(-1, 0));
         Check.refused("5 b 3", town, Check.NO_SUCH, () -> town.swapUmbrellas(0, 3));
         Check.refused("5 none such, and the same", town, Check.NO_SUCH, () -> town.swapUmbrellas(3, 3));
@@ -99,7 +93,8 @@ public final class MachineTest {
     }
 
     private static void swapTickets() {
-        TicketCoincidences town = townOf(new int[] {12, 0, 0, 0}, new int[] {50, 1, 0, 0}, new int[] {21, 2, 4, 0});
+        TicketCoincidences town = Check.townOf(new int[] {12, 0, 0, 0}, new int[] {50, 1, 0, 0},
+                new int[] {21, 2, 4, 0});
         Check.due("6 nothing yet", town.coincidences(), 0);
         Check.due("6 more", town.swapTickets(2, 1), 7);
         Check.due("6 ticket 1", town.ticketOf(1), 21);
@@ -112,13 +107,14 @@ public final class MachineTest {
         Check.due("6 store then", town.store(), 4);
         Check.due("6 spent then", town.spent(), 16);
         // The town of now counts, not that behind the next walk: 12 and 21 walk to different corners.
-        TicketCoincidences walking = townOf(new int[] {12, 0, 0, 1}, new int[] {50, 1, 0, 2}, new int[] {21, 2, 4, 0});
+        TicketCoincidences walking = Check.townOf(new int[] {12, 0, 0, 1}, new int[] {50, 1, 0, 2},
+                new int[] {21, 2, 4, 0});
         Check.due("6 more now", walking.swapTickets(1, 2), 7);
         Check.due("6 fewer now", walking.swapTickets(1, 2), -7);
     }
 
     private static void swapTicketsRefuses() {
-        TicketCoincidences town = townOf(new int[] {12, 0, 0, 0}, new int[] {50, 1, 0, 0});
+        TicketCoincidences town = Check.townOf(new int[] {12, 0, 0, 0}, new int[] {50, 1, 0, 0});
         Check.refused("6 a 2", town, Check.NO_SUCH, () -> town.swapTickets(2, 0));
         Check.refused("6 b -1", town, Check.NO_SUCH, () -> town.swapTickets(0, -1));
         Check.refused("6 none such, and the same", town, Check.NO_SUCH, () -> town.swapTickets(-1, -1));
@@ -129,7 +125,7 @@ public final class MachineTest {
         Check.due("6 store is 7", town.store(), 7);
         Check.refused("6 costs too much", town, Check.NOT_NOW, () -> town.swapTickets(0, 1));
         Check.refused("6 the same, store or not", town, Check.NOT_ALLOWED, () -> town.swapTickets(1, 1));
-        TicketCoincidences other = townOf(new int[] {12, 0, 0, 0}, new int[] {50, 1, 3, 0});
+        TicketCoincidences other = Check.townOf(new int[] {12, 0, 0, 0}, new int[] {50, 1, 3, 0});
         other.draw(0, 21);
         Check.due("6 store is 8", other.store(), 8);
         Check.due("6 wherever they stand", other.swapTickets(0, 1), 0);
@@ -138,19 +134,19 @@ public final class MachineTest {
     }
 
     private static void draw() {
-        TicketCoincidences town = townOf(new int[] {12, 0, 0, 0}, new int[] {50, 1, 0, 0});
+        TicketCoincidences town = Check.townOf(new int[] {12, 0, 0, 0}, new int[] {50, 1, 0, 0});
         Check.due("7 the one before", town.draw(1, 99), 50);
         Check.due("7 ticket 1", town.ticketOf(1), 99);
         Check.due("7 ticket 0", town.ticketOf(0), 12);
         Check.due("7 store", town.store(), 8);
         Check.due("7 spent", town.spent(), 12);
-        TicketCoincidences other = townOf(new int[] {12, 0, 0, 0});
+        TicketCoincidences other = Check.townOf(new int[] {12, 0, 0, 0});
         Check.due("7 the same ticket again", other.draw(0, 12), 12);
         Check.due("7 costs 12 too", other.store(), 8);
     }
 
     private static void drawRefuses() {
-        TicketCoincidences town = townOf(new int[] {12, 0, 0, 0}, new int[] {50, 1, 0, 0});
+        TicketCoincidences town = Check.townOf(new int[] {12, 0, 0, 0}, new int[] {50, 1, 0, 0});
         Check.refused("7 stranger 2", town, Check.NO_SUCH, () -> town.draw(2, 100));
         Check.refused("7 stranger -1", town, Check.NO_SUCH, () -> town.draw(-1, 5));
         Check.refused("7 ticket -1", town, Check.NOT_ALLOWED, () -> town.draw(0, -1));
@@ -158,7 +154,7 @@ public final class MachineTest {
         town.swapTickets(0, 1);
         Check.due("7 exactly 12", town.draw(0, 0), 50);
         Check.due("7 store is 0", town.store(), 0);
-        TicketCoincidences other = townOf(new int[] {12, 0, 0, 0}, new int[] {50, 1, 0, 0});
+        TicketCoincidences other = Check.townOf(new int[] {12, 0, 0, 0}, new int[] {50, 1, 0, 0});
         other.swapUmbrellas(0, 1);
         other.swapUmbrellas(0, 1);
         other.swapUmbrellas(0, 1);
@@ -168,7 +164,7 @@ public final class MachineTest {
     }
 
     private static void passOneHour() {
-        TicketCoincidences town = townOf(new int[] {12, 0, 5, 1}, new int[] {21, 1, 0, 0},
+        TicketCoincidences town = Check.townOf(new int[] {12, 0, 5, 1}, new int[] {21, 1, 0, 0},
                 new int[] {40, 1, 4, 5}, new int[] {41, 2, 0, 3});
         // Behind the walk, 12 and 21 are at 0 (7 points), 40 and 41 at 3 (3 points).
         Check.due("8 counted", town.pass(1), 10);
@@ -183,7 +179,7 @@ public final class MachineTest {
     }
 
     private static void passManyHours() {
-        TicketCoincidences town = townOf(new int[] {12, 0, 0, 1}, new int[] {21, 0, 0, 2});
+        TicketCoincidences town = Check.townOf(new int[] {12, 0, 0, 1}, new int[] {21, 0, 0, 2});
         // They meet behind 6 and 12 hours; else 4 corners are empty, then 5.
         Check.due("8 counted in 5", town.pass(5), 0);
         Check.due("8 store behind 5", town.store(), 40);
@@ -221,7 +217,7 @@ public final class MachineTest {
     }
 
     private static void passRefuses() {
-        TicketCoincidences town = townOf(new int[] {12, 0, 0, 1});
+        TicketCoincidences town = Check.townOf(new int[] {12, 0, 0, 1});
         int[] wrong = {0, -1, 61, Integer.MAX_VALUE, Integer.MIN_VALUE};
         for (int hours : wrong) {
             Check.refused("8 hours " + hours, town, Check.NOT_ALLOWED, () -> town.pass(hours));
